@@ -149,7 +149,10 @@ public final class ActTest {
         }
         Check.due("rest", x.days(60), 20);
         Check.due("DAY", x.now(0), 400);
+        x.image(0);
+        x.restore(0);
         Check.due("none left", x.days(1), 0);
+        Check.due("that is no act", x.undo(), ReadBound.NONE);
         Check.due("an act on DAY 400", x.act(0, 0), 0);
     }
 

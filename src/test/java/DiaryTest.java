@@ -81,6 +81,8 @@ public final class DiaryTest {
         fault("day 1;" + Check.times(" ", 393) + "nobody wears;", 399, 3);
         fault("day 1" + Check.times(" ", 400), 400, 1);
         fault("day 1;" + Check.times(" ", 900), 400, 1);
+        fault(Check.times("day 1;", 40) + Check.times(" ", 160) + "day 1;", 400, 1);
+        fault(Check.times("day 1;", 40) + Check.times(" ", 159) + "day 1;", 399, 4);
     }
 
     private static void wrong(String text, int line, int why) {

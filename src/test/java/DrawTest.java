@@ -78,6 +78,7 @@ public final class DrawTest {
             Check.due("all stays", a.now(0), 2);
             Check.due("nothing to undo", a.undo(), NONE);
         }
+        lastDays();
         ReadBound y = Check.land("place a;deed d;law l 1 d;man m a 1;man n a 0;round m a;post l a;");
         int wrapped = y.odds(0, 30, Integer.MAX_VALUE - 3);
         y.image(0);
@@ -95,6 +96,25 @@ public final class DrawTest {
         }
         for (int bad : new int[] {-1, 2, Integer.MAX_VALUE, Integer.MIN_VALUE}) {
             Check.due("odds", y.odds(bad, 1, 1), NONE);
+        }
+    }
+
+    /** Ten DAYS are left: no draws are made behind them. */
+    private static void lastDays() {
+        ReadBound a = Check.land(Check.LAND);
+        for (int i = 0; i < 6; i++) {
+            a.days(60);
+        }
+        a.days(30);
+        a.image(0);
+        for (int m = 0; m < 3; m++) {
+            int free = 0;
+            for (int i = 0; i < 30; i++) {
+                byHand(a, 10, 4711 + i);
+                free += a.binds(m) == 0 ? 1 : 0;
+                a.restore(0);
+            }
+            Check.due("odds of the last DAYS", a.odds(m, 30, 4711), free);
         }
     }
 

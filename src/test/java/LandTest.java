@@ -74,6 +74,18 @@ public final class LandTest {
         faultBehind(ALL, "law k 1 d 1;", 10, 1);
         faultBehind(ALL, "law k 1 d", 9, 1);
         faultBehind(ALL, "repeal k 1 l l;", 13, 1);
+        faultBehind(ALL, "repeal k 1;", 10, 1);
+        faultBehind(ALL, "repeal k 1 1;", 11, 1);
+        faultBehind(ALL, "repeal;", 6, 1);
+        faultBehind(ALL, "law;", 3, 1);
+        faultBehind(ALL, "man;", 3, 1);
+        faultBehind(ALL, "man 1 a 1;", 4, 1);
+        faultBehind(ALL, "man o a;", 7, 1);
+        faultBehind(ALL, "clerk;", 5, 1);
+        faultBehind(ALL, "clerk 1 m;", 6, 1);
+        faultBehind(ALL, "post;", 4, 1);
+        faultBehind(ALL, "road;", 4, 1);
+        faultBehind(ALL, "round;", 5, 1);
         faultBehind(ALL, "round m;", 7, 1);
         faultBehind(ALL, "clerk m;", 7, 1);
         faultBehind(ALL, "clerk m n m;", 10, 1);
@@ -163,6 +175,9 @@ public final class LandTest {
         String deeds = "deed a;deed b;deed c;deed d;deed e;";
         fine(deeds, 5);
         faultBehind(deeds, "deed f;", 0, 4);
+        faultBehind(deeds, "law l 1 a b c d e a;", 18, 3);
+        faultBehind(deeds, "law l 1 a b c d e f;", 18, 3);
+        faultBehind(deeds, "law l 1 a b c d e 1;", 18, 1);
         String laws = deeds + "law l 1 a;law m 1 e d c b a;law n 1 a;law o 1 a;law p 1 a;";
         fine(laws + "repeal r 1 l;", 11);
         faultBehind(laws + "repeal r 1 l;", "repeal s 1 l;", 0, 4);
@@ -186,6 +201,9 @@ public final class LandTest {
         fault("place a;" + Check.times(" ", 891) + "place2 b;", 899, 1);
         fault("place a;" + Check.times(" ", 891) + "placeabc;", 899, 1);
         fault("place a;" + Check.times(" ", 892) + "X", 900, 1);
+        fault("place a;" + Check.times(" ", 887) + "place a;", 900, 1);
+        fault("place a;" + Check.times(" ", 886) + "place a;", 900, 1);
+        fault("place a;" + Check.times(" ", 885) + "place a;", 899, 3);
         fault("place a;" + Check.times(" ", 891) + ";;", 899, 1);
         fault("place a;place a;" + Check.times(" ", 900), 14, 3);
         fault("place a;" + Check.times(" ", 885) + "place a;;", 899, 3);

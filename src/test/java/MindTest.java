@@ -51,6 +51,8 @@ public final class MindTest {
         Check.due("nothing to undo", x.undo(), NONE);
         x.days(2);
         Check.due("now it does", x.when(0, 0, 1), 2);
+        Check.due("in no DAYS", x.when(0, 0, 0), NONE);
+        Check.due("in too many", x.when(0, 0, 61), NONE);
         x.days(1);
         Check.due("DAY 3: half, tomorrow", x.when(0, 0, 1), 4);
         for (int bad : new int[] {0, -1, 61, Integer.MAX_VALUE, Integer.MIN_VALUE}) {
@@ -67,6 +69,22 @@ public final class MindTest {
         y.post(0, 0);
         Check.due("the repeal is forgotten", y.when(0, 0, 60), 10);
         Check.due("in 9", y.when(0, 0, 9), NONE);
+        ReadBound z = Check.land("place a;deed d;law l 4 d;man m a 1;round m a;");
+        for (int i = 0; i < 6; i++) {
+            z.days(60);
+        }
+        z.days(37);
+        z.image(0);
+        z.post(0, 0);
+        Check.due("half on DAY 398", z.when(0, 0, 60), 398);
+        z.restore(0);
+        z.days(2);
+        z.post(0, 0);
+        Check.due("half on DAY 400", z.when(0, 0, 60), 400);
+        z.restore(0);
+        z.days(3);
+        z.post(0, 0);
+        Check.due("no DAY is left", z.when(0, 0, 60), NONE);
     }
 
     private static void clerks() {

@@ -36,6 +36,9 @@ public final class TellTest {
                 Check.due("man(" + m + ", " + what + ")", x.man(m, what), due[m][what]);
             }
         }
+        ReadBound y = Check.land("place a;place b;man m b 1;man n a 1;");
+        Check.due("the first begins in b", y.man(0, 0), 1);
+        Check.due("the second in a", y.man(1, 0), 0);
         for (int bad : new int[] {-1, 3, 6, Integer.MAX_VALUE, Integer.MIN_VALUE}) {
             Check.noMan(x, bad, 0);
         }

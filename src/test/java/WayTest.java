@@ -141,6 +141,8 @@ public final class WayTest {
         // fewer beat less bits: one at the greatest place against two
         ReadBound y = Check.land("place a;place b;place c;place d;place e;road a b;road a c;road b e;road c e;road e d;deed z;law l 1 z;");
         Check.due("e alone", y.boards(0, 3, 0), 16);
+        ReadBound z = Check.land("place a;place b;place c;place d;place e;road a e;road e b;deed z;law l 1 z;");
+        Check.due("e alone", z.boards(0, 1, 0), 16);
     }
 
     private static void posts() {
@@ -184,6 +186,15 @@ public final class WayTest {
         Check.due("4 DAYS left", z.now(0), 396);
         z.posts(0, 1);
         Check.due("5 times alone", z.posted(), 0);
+        ReadBound w = Check.land("place a;deed z;law l 5 z;law k 6 z;man m a 1;round m a;");
+        for (int i = 0; i < 6; i++) {
+            w.days(60);
+        }
+        w.days(36);
+        w.posts(0, 1);
+        Check.due("5 times", w.posted(), 1);
+        w.posts(1, 1);
+        Check.due("not 6 times", w.posted(), 0);
     }
 
     private static void wide() {
