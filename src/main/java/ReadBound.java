@@ -874,9 +874,11 @@ public final class ReadBound {
         /** Whether no way leads from a to b, if nobody passes the closed PLACES. */
         boolean parts(int a, int b, int closed) {
             int reached = 1 << a;
-            for (int round = 0; round < MOST_PLACES; round++) {
-                for (int p = 0; p < at(facts, PLACES); p++) {
-                    if ((reached >> p & 1) == 1) {
+            int before = 0;
+            for (int round = 0; round < MOST_PLACES && reached != before; round++) {
+                before = reached;
+                for (int p = 0; p < MOST_PLACES; p++) {
+                    if ((before >> p & 1) == 1) {
                         reached |= at(facts, ROADS_OF + p) & ~closed;
                     }
                 }
@@ -1212,7 +1214,7 @@ public final class ReadBound {
                 return;
             }
             int board = at(cells, BOARD + at(cells, PLACE_OF + m));
-            for (int l = 0; l < at(facts, Land.LAWS); l++) {
+            for (int l = 0; l < MOST_LAWS && board >> l != 0; l++) {
                 if ((board >> l & 1) == 1) {
                     readLaw(m, l);
                 }
@@ -1316,22 +1318,27 @@ public final class ReadBound {
         // ---- DAYS
 
         void passDays(int n) {
+            int men = at(facts, Land.MEN);
             for (int i = 0; i < n && today() < LAST_DAY; i++) {
                 forgetOld();
                 put(cells, TODAY, today() + 1);
-                for (int m = 0; m < at(facts, Land.MEN); m++) {
+                for (int m = 0; m < men; m++) {
                     put(cells, WENT + m, 0);
                 }
-                for (int m = 0; m < at(facts, Land.MEN); m++) {
+                for (int m = 0; m < men; m++) {
                     goRound(m);
                 }
             }
         }
 
         void forgetOld() {
-            int laws = at(facts, Land.LAWS);
             int last = today() - KEPT_DAYS;
-            for (int m = 0; m < at(facts, Land.MEN); m++) {
+            if (last < 0) {
+                return;
+            }
+            int laws = at(facts, Land.LAWS);
+            int men = at(facts, Land.MEN);
+            for (int m = 0; m < men; m++) {
                 for (int l = 0; l < laws; l++) {
                     if (at(cells, READ_ON + m * MOST_LAWS + l) <= last) {
                         put(cells, WORDS_OF + m * MOST_LAWS + l, 0);
@@ -1402,7 +1409,8 @@ public final class ReadBound {
         /** LAWS and repeals of which he has all words, as bits. */
         int wholeFor(int m) {
             int whole = 0;
-            for (int l = 0; l < at(facts, Land.LAWS); l++) {
+            int laws = at(facts, Land.LAWS);
+            for (int l = 0; l < laws; l++) {
                 if (at(cells, WORDS_OF + m * MOST_LAWS + l) >= at(facts, Land.LENGTH + l)) {
                     whole |= 1 << l;
                 }
@@ -1413,9 +1421,9 @@ public final class ReadBound {
         /** LAWS that do not bind him who has all of these. */
         int repealedBy(int whole) {
             int repealed = 0;
-            for (int l = 0; l < at(facts, Land.LAWS); l++) {
-                int other = at(facts, Land.REPEALS + l);
-                if (other != NONE && (whole >> l & 1) == 1) {
+            for (int l = 0; l < MOST_LAWS && whole >> l != 0; l++) {
+                int other = (whole >> l & 1) == 1 ? at(facts, Land.REPEALS + l) : NONE;
+                if (other != NONE) {
                     repealed |= 1 << other;
                 }
             }
@@ -1431,7 +1439,8 @@ public final class ReadBound {
             int repealed = repealedBy(wholeFor(m));
             int least = today() % 2 == 0 ? 1 : 2;
             int binding = 0;
-            for (int l = 0; l < at(facts, Land.LAWS); l++) {
+            int laws = at(facts, Land.LAWS);
+            for (int l = 0; l < laws; l++) {
                 if (at(facts, Land.REPEALS + l) == NONE && (repealed >> l & 1) == 0
                         && stateOf(m, l) >= least) {
                     binding |= 1 << l;
@@ -1443,7 +1452,7 @@ public final class ReadBound {
         int barredFor(int m) {
             int binding = bindingOn(m);
             int deeds = 0;
-            for (int l = 0; l < at(facts, Land.LAWS); l++) {
+            for (int l = 0; l < MOST_LAWS && binding >> l != 0; l++) {
                 if ((binding >> l & 1) == 1) {
                     deeds |= at(facts, Land.FORBIDS + l);
                 }

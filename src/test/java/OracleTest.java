@@ -48,6 +48,10 @@ public final class OracleTest {
             text(land(), 0);
         }
         int first = calls.size();
+        // some runs near the last DAY, which none would come to else
+        for (int i = random.nextInt(4) == 0 ? 0 : 6; i < 6; i++) {
+            due("days 60", x.days(60), y.days(60));
+        }
         for (int i = 0; i < 400 && !wrong && calls.size() - first < 450; i++) {
             int kind = random.nextInt(40);
             if (kind == 0) {
