@@ -34,7 +34,7 @@ public final class ReadBound {
     private static final int BAD_NAME = 3;
     private static final int TOO_MANY = 4;
 
-    private static final String VOCABULARY = 
+    private static final String VOCABULARY =
             "place road deed law repeal man round clerk post goes does wears bares fevers posts rains day or and not blind free bound may in sight words did number";
     private static final int VOCABULARY_SIZE = 29;
     private static final int PLACE = 0;

@@ -1,4 +1,7 @@
 import java.nio.charset.StandardCharsets;
+import java.nio.file.Files;
+import java.nio.file.Path;
+import java.nio.file.Paths;
 
 /** What every test needs: answers compared, texts put on the tape. */
 final class Check {
@@ -7,7 +10,11 @@ final class Check {
             + "man joe a 2;man ida d 9;man duke c 0;clerk ida duke;round joe b c d a;"
             + "post tax b;post hush c;post calm d;";
 
+    private static final Path DOCUMENT = Paths.get("../shared/DOC.md");
+
     private static int wrong = 0;
+    private static String edge = "";
+    private static String document;
 
     private Check() {
     }
@@ -15,8 +22,44 @@ final class Check {
     static void due(String what, long got, long want) {
         if (got != want) {
             wrong++;
-            System.out.println(what + " answered " + got + ", due is " + want);
+            System.out.println(edge + what + " answered " + got + ", due is " + want);
         }
+    }
+
+    /** What follows tests these words of the document's part. A word that stands there no more is told, as the test may be stale. */
+    static void edge(String part, String words) {
+        edge = part + " [" + words + "] ";
+        if (!document().isEmpty() && !textOf(part).contains(words)) {
+            System.out.println(edge + "does not stand so in the document");
+        }
+    }
+
+    static void edge(int promise, String words) {
+        edge("Promise " + promise, words);
+    }
+
+    private static String textOf(String part) {
+        for (String text : document().split("## ")) {
+            if (text.startsWith(part + ":") || text.startsWith(part + " ")) {
+                return text;
+            }
+        }
+        return "";
+    }
+
+    private static String document() {
+        if (document == null) {
+            document = "";
+            try {
+                if (Files.exists(DOCUMENT)) {
+                    String text = new String(Files.readAllBytes(DOCUMENT), StandardCharsets.UTF_8);
+                    document = text.replace("&lt;", "<").replace("&gt;", ">").replaceAll("\\s+", " ");
+                }
+            } catch (java.io.IOException e) {
+                System.out.println("the document can't be read: quotes are not looked up");
+            }
+        }
+        return document;
     }
 
     static void due(String what, boolean got, boolean want) {
