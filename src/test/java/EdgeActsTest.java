@@ -309,47 +309,49 @@ public final class EdgeActsTest {
 
     private static void lawOfAFullLand() {
         Check.edge(6, "Of a LAW: 0 LENGTH, 1 DEEDS that it forbids, as bits,");
-        Check.edge(6, ", 3 PLACES where it is posted, as bits.");
         ReadBound x = fullLand();
-        int[][] due = {{30, 31, NONE, 513}, {2, 1, NONE, 0}, {3, 2, NONE, 0}, {4, 4, NONE, 0}, {5, 0, 0, 512}, {1, 16, NONE, 512}};
+        int[] lengths = {30, 2, 3, 4, 5, 1};
+        int[] deeds = {31, 1, 2, 4, 0, 16};
         for (int l = 0; l < 6; l++) {
-            for (int what = 0; what < 4; what++) {
-                Check.due("law(" + l + ", " + what + ")", x.law(l, what), due[l][what]);
-            }
+            Check.due("LENGTH of " + l, x.law(l, 0), lengths[l]);
+            Check.due("DEEDS of " + l, x.law(l, 1), deeds[l]);
+        }
+        Check.due("no LAW more", x.law(6, 0), NONE);
+        Check.edge(6, ", 3 PLACES where it is posted, as bits.");
+        int[] places = {513, 0, 0, 0, 512, 512};
+        for (int l = 0; l < 6; l++) {
+            Check.due("PLACES of " + l, x.law(l, 3), places[l]);
         }
         for (int p = 0; p < 9; p++) {
             Check.due("post", x.post(5, p), 0);
         }
         Check.due("posted in all", x.law(5, 3), 1023);
-        Check.due("no LAW more", x.law(6, 0), NONE);
     }
 
     private static void manOfAFullLand() {
         Check.edge(7, "Of a MAN: 0 PLACE, 1 SIGHT, 2 whether he wears blinkers (1, 0),");
-        Check.edge(7, ", 4 whether he went today (1, 0), 5 DEEDS done so far.");
         ReadBound x = fullLand();
         int[] places = {0, 1, 2, 3, 9, 9};
         int[] sights = {1, 2, 3, 4, 0, 9};
+        x.wear(5, 1);
         for (int m = 0; m < 6; m++) {
             Check.due("PLACE", x.man(m, 0), places[m]);
             Check.due("SIGHT", x.man(m, 1), sights[m]);
-            Check.due("blinkers", x.man(m, 2), 0);
-            Check.due("went", x.man(m, 4), 0);
-            Check.due("DEEDS", x.man(m, 5), 0);
+            Check.due("blinkers", x.man(m, 2), m == 5 ? 1 : 0);
         }
+        Check.noMan(x, 6, 0);
+        Check.edge(7, ", 4 whether he went today (1, 0), 5 DEEDS done so far.");
         x.go(5, 0);
-        x.wear(5, 1);
         x.act(5, 0);
         x.act(5, 3);
         x.act(5, 4);
-        Check.due("PLACE", x.man(5, 0), 0);
-        Check.due("blinkers", x.man(5, 2), 1);
-        Check.due("went", x.man(5, 4), 1);
-        Check.due("DEEDS but the one forbidden", x.man(5, 5), 2);
-        for (int m = 0; m < 5; m++) {
-            Check.due("of the others", x.man(m, 2) + x.man(m, 4) + x.man(m, 5), 0);
+        for (int m = 0; m < 6; m++) {
+            Check.due("went", x.man(m, 4), m == 5 ? 1 : 0);
+            Check.due("DEEDS but the one forbidden", x.man(m, 5), m == 5 ? 2 : 0);
         }
-        Check.noMan(x, 6, 0);
+        x.days(1);
+        Check.due("not today", x.man(5, 4), 0);
+        Check.due("so far", x.man(5, 5), 2);
     }
 
     private static void placeOfAFullLand() {
