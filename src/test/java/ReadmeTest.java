@@ -8,8 +8,6 @@ import java.util.ArrayList;
 import java.util.List;
 import java.util.regex.Matcher;
 import java.util.regex.Pattern;
-import javax.tools.JavaCompiler;
-import javax.tools.ToolProvider;
 
 /** The examples of README.md, run as they stand there: each call must answer what is told behind it. */
 public final class ReadmeTest {
@@ -86,9 +84,8 @@ public final class ReadmeTest {
         Path inside = directory.resolve("ReadmeExample$Call.class");
         try {
             Files.write(source, program.getBytes(StandardCharsets.UTF_8));
-            JavaCompiler compiler = ToolProvider.getSystemJavaCompiler();
-            int code = compiler.run(null, System.out, System.out, "-cp", System.getProperty("java.class.path"),
-                    "-d", directory.toString(), source.toString());
+            int code = new ProcessBuilder("javac", "-cp", System.getProperty("java.class.path"), "-d", directory.toString(),
+                    source.toString()).inheritIO().start().waitFor();
             Check.due("README.md's examples compile", code, 0);
             if (code != 0) {
                 return new int[] {0, 1};
